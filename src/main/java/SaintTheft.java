@@ -723,7 +723,7 @@ public final class SaintTheft {
         private int fault;
         private int place = NONE;
         private int lateFault;
-        private int latePlace;
+        private int lateToken;
 
         Reader(Text first) {
             text = first;
@@ -760,13 +760,7 @@ public final class SaintTheft {
                         break;
                 }
             }
-            if (fault == NO_FAULT) {
-                fault = lateFault;
-                place = latePlace;
-            }
-            if (fault == NO_FAULT) {
-                into.joinRoads();
-            }
+            settle();
             return fault;
         }
 
@@ -778,9 +772,23 @@ public final class SaintTheft {
             at = 0;
             kind = tokens.kindAt(0);
             fault = NO_FAULT;
-            place = NONE;
             lateFault = NO_FAULT;
-            latePlace = NONE;
+            lateToken = 0;
+        }
+
+        /** The pass has stopped at the TOKEN of its fault, or else a later one may have been kept aside. */
+        private void settle() {
+            int token = at;
+            if (fault == NO_FAULT) {
+                fault = lateFault;
+                token = lateToken;
+            }
+            if (fault == NO_FAULT) {
+                place = NONE;
+                text.joinRoads();
+            } else {
+                place = tokens.placeAt(token);
+            }
         }
 
         /** Goes past a TOKEN of a kind; the 401st is too many only where it could stand at all. */
@@ -798,14 +806,13 @@ public final class SaintTheft {
 
         private boolean refuse(int number) {
             fault = number;
-            place = tokens.placeAt(at);
             return false;
         }
 
         private void refuseLate(int number, int token) {
             if (lateFault == NO_FAULT) {
                 lateFault = number;
-                latePlace = tokens.placeAt(token);
+                lateToken = token;
             }
         }
 
@@ -1020,9 +1027,9 @@ public final class SaintTheft {
             beginTimes(CAUGHT, WATCH, 10);
         }
 
-        private void beginTimes(int law, int var, int factor) {
+        private void beginTimes(int law, int which, int factor) {
             begin(law);
-            emit(VAR, var);
+            emit(VAR, which);
             emit(NUMBER, factor);
             emit('*', 0);
             emit(ANSWER, 0);
@@ -1057,14 +1064,14 @@ public final class SaintTheft {
             }
         }
 
-        void setVar(int var, int value) {
-            if (var >= 0 && var < MANY_VARS) {
-                vars[var] = value;
+        void setVar(int which, int value) {
+            if (which >= 0 && which < MANY_VARS) {
+                vars[which] = value;
             }
         }
 
-        private int varOf(int var) {
-            return var >= 0 && var < MANY_VARS ? vars[var] : 0;
+        private int varOf(int which) {
+            return which >= 0 && which < MANY_VARS ? vars[which] : 0;
         }
 
         /** What a law tells by the vars as they are set. */
