@@ -456,6 +456,11 @@ public final class PromisesTest {
         due("the first that holds", value("if 3 < 2 then 1 else if 1 < 2 then 2 else if 1 < 3 then 3 else 4"), 2);
         due("none holds", value("if 3 < 2 then 1 else if 3 < 2 then 2 else if 3 < 1 then 3 else 4"), 4);
         due("ints of four digits", value("0010 + 9999"), 10009);
+        due("most that can wait", value("if 1+2*(1+2*(1+2*(1+2*(1+2*(1+2*(1+2*3)))))) < 1+2*(1+2*(1+2*(1+2*(1+2*(1+2*(1+2*4)))))) "
+                + "then 1+2*(1+2*(1+2*(1+2*(1+2*(1+2*(1+2*3)))))) else 0"), 127 + 128 * 3);
+        SaintTheft longest = Texts.of("church a 3;pilgrim p a 4 5;draws=1" + "+1".repeat(192) + ";");
+        due("the longest law", longest.tells(0, 0, 0), 193);
+        due("and one that was not told", longest.tells(0, 0, 1), 5);
         SaintTheft x = Texts.of("church a 0; pilgrim p a 0 0; gives = 100;");
         due("GIVES held to 99", x.tells(0, 0, 1), 99);
         x = Texts.of("church a 0; pilgrim p a 0 0; gives = 0 - 1;");
@@ -858,9 +863,15 @@ public final class PromisesTest {
                 + "pilgrim q b 0 9; gives = if gift < 5 then truth * 10 + 1 else 50 - truth * 10;");
         due("two pairs", y.barter(2, 0), 2);
         due("the first", y.barter(2, 1), 2);
+        SaintTheft least = Texts.of("church a 0; church b 0; relic r a copy; relic t b true; pilgrim p a 0 1; "
+                + "pilgrim q b 0 9; gives = if gift < 5 then truth else 9 - truth;");
+        due("each gains one", least.barter(1, 0), 1);
+        due("each gains one", least.barter(1, 1), 1);
         // Only p gains: it is not both of them.
         SaintTheft z = Texts.of("church a 0; church b 0; relic r a copy; relic t b true; pilgrim p a 0 1; gives = truth * 10;");
         due("one gains alone", z.barter(2, 0), 0);
+        SaintTheft w = Texts.of("church a 0; church b 0; relic r a copy; relic t b true; pilgrim p b 0 1; gives = 9 - truth;");
+        due("the other one gains alone", w.barter(2, 0), 0);
     }
 
     private static void promise24() {

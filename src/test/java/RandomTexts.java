@@ -94,7 +94,8 @@ final class RandomTexts {
             case "caught":
                 return law.append(pick("watch * nights", "watch * 7 + relics", "20 + years", sum(2))).toString();
             case "gives":
-                return law.append(pick("gift + relics + wonders", "gift * relics - far", sum(2))).toString();
+                return pick("gift * 3 + relics + wonders", "if gift < 5 then truth else 9 - truth",
+                        law.append(sum(2)).toString());
             default:
                 return law.append(pick("relics * 10 + wonders - far", "truth * 9 + years * wonders", sum(2)))
                         .toString();
