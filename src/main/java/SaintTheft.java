@@ -1204,7 +1204,7 @@ public final class SaintTheft {
         }
 
         int truth(int relic) {
-            return relic >= 0 && relic < relics ? trueRelics >> relic & 1 : 0;
+            return relic >= 0 && relic < relics ? (trueRelics >> relic) & 1 : 0;
         }
 
         int watchersOf(int church) {
@@ -1441,7 +1441,7 @@ public final class SaintTheft {
 
         private static int mixed(int h, int with) {
             int next = (h ^ with) * 1103515245 + 12345;
-            return next ^ next >>> 15;
+            return next ^ (next >>> 15);
         }
 
         private static boolean falls(int seed, int which, int likely) {
@@ -1532,7 +1532,7 @@ public final class SaintTheft {
             int bits = state.get(State.RELICS_AT + church);
             int wonders = 0;
             for (int relic = 0; relic < MOST_RELICS; relic++) {
-                if ((bits >> relic & 1) != 0) {
+                if (((bits >> relic) & 1) != 0) {
                     int which = 64 * state.get(State.YEAR) + 8 * pilgrim + relic;
                     if (falls(seed, which, healing(state, relic, pilgrim, text.truth(relic)))) {
                         wonders |= 1 << relic;
