@@ -7,7 +7,7 @@ import java.util.Comparator;
 /** Runs every edge test: each is about one boundary case, bears its promise's number and quotes its words. */
 public final class EdgesTest {
     private static final Class<?>[] WHERE = {TextEdges.class, FaultEdges.class, LawEdges.class, DeedEdges.class,
-        QuestionEdges.class, ForecastEdges.class, ToldEdges.class};
+        QuestionEdges.class, ForecastEdges.class, ToldEdges.class, FullEdges.class};
 
     public static void main(String[] args)
             throws IOException, IllegalAccessException, InvocationTargetException {

@@ -92,23 +92,45 @@ final class FaultEdges {
             Edges.dueFault(many + "; " + head, 2, many.length() + 2);
             Edges.dueFault(many + "; " + head + " @", 2, many.length() + 2);
         }
-        // Each further sort of TOKEN as the 401st one.
-        String at398 = "draws=1" + "+1".repeat(197) + ";";
-        Edges.dueFault(at398 + "seed 1;", 2, at398.length() + 6);
-        Edges.dueFault(at398 + "seed @", 1, at398.length() + 5);
-        Edges.dueFault(at398 + "church a 1;", 2, at398.length() + 9);
-        Edges.dueFault(at398 + "road a b 1;", 2, at398.length() + 7);
-        Edges.dueFault(at398 + "draws = 1;", 2, at398.length() + 8);
-        Edges.dueFault(at398 + "draws = if 1 < 2", 2, at398.length() + 8);
-        Edges.dueFault(at398 + "draws = (1);", 2, at398.length() + 8);
-        Edges.dueFault(at398 + "draws = then", 1, at398.length() + 8);
-        String behind = "draws=1" + "+1".repeat(196) + ";";
-        Edges.dueFault(behind + "church a b", 1, behind.length() + 9);
-        Edges.dueRight(behind + "church a 1;");
-        Edges.dueFault(behind + "relic s a true;", 2, behind.length() + 14);
-        Edges.dueFault(behind + "draws = (1);", 2, behind.length() + 10);
-        Edges.dueFault(behind + "draws = 1 * 2;", 2, behind.length() + 12);
-        Edges.dueFault(behind + "draws = 1;;", 1, behind.length() + 10);
+    }
+
+    /** TELLs of just so many TOKENS; six or more. */
+    private static String tokens(int many) {
+        int fours = many % 3;
+        return "draws=1;".repeat(fours) + "seed 1;".repeat((many - 4 * fours) / 3);
+    }
+
+    static void promise4EachTokenTheLast() {
+        Edges.edge(4, "a 401st TOKEN");
+        // Each TOKEN of these TELLs, in its turn, is the 401st; and the one ahead of it is still in its place.
+        String tells = "church a 1 ; church b 2 ; road a b 3 ; relic r a true ; relic s b copy ; pilgrim p a 4 5 ; "
+                + "heals = if ( 1 + far ) * 2 < need / 3 then 4 - 5 else if 1 < 2 then 6 else ( ( gift ) ) - 5 ; seed 7 ;";
+        int many = tells.split(" ").length;
+        int place = 0;
+        for (int i = 0; i < many; i++) {
+            String ahead = tokens(400 - i);
+            Edges.dueFault(ahead + tells, 2, ahead.length() + place);
+            Edges.dueFault(ahead + tells.substring(0, place) + "@", 1, ahead.length() + place);
+            if (i > 0 && tells.charAt(place - 2) == ';') {
+                Edges.dueRight(ahead + tells.substring(0, place));
+            }
+            place = tells.indexOf(' ', place) + 1;
+        }
+        Edges.dueRight(tokens(400 - many) + tells);
+    }
+
+    static void promise4RoomWhereNoneStands() {
+        Edges.edge(4, "2 ROOM: a 401st TOKEN; one more of a sort than told (at its first TOKEN); a 5th if of a LAW (at it); "
+                + "a 7th ( within one another (at it).");
+        // The 401st TOKEN is one of the others at once: it is ROOM either way.
+        String six = TextEdges.many("church # 1;", 6);
+        String ahead = tokens(400 - 24);
+        Edges.dueFault(six + ahead + "church g 1;", 2, six.length() + ahead.length());
+        String ifs = "draws = " + "if 1 < 2 then 3 else ".repeat(4);
+        ahead = tokens(400 - 30);
+        Edges.dueFault(ahead + ifs + "if", 2, ahead.length() + ifs.length());
+        ahead = tokens(400 - 8);
+        Edges.dueFault(ahead + "draws=(((((((1", 2, ahead.length() + 12);
     }
 
     static void promise4OneMoreOfASort() {
@@ -275,6 +297,36 @@ final class FaultEdges {
             Edges.due("watchers", x.church(0, 0), 8);
             Edges.due("restore", x.restore(1), false);
         }
+    }
+
+    static void promise4NothingIsLeftOver() {
+        Edges.edge(4, "else it is in place of the one ahead: year 0, all as told");
+        String full = TextEdges.many("church # 9;", 6) + TextEdges.many("relic r# f true;", 6)
+                + TextEdges.many("pilgrim p# f 9 9;", 5) + "road a b 1;road b c 1;seed 9;draws=7;heals=7;gives=7;leave=7;caught=7;";
+        String small = "church a 0; church b 0; relic r a copy; pilgrim p a 0 1;";
+        String fresh = Edges.seen(Texts.of(small));
+        SaintTheft x = new SaintTheft();
+        for (int i = 0; i < 3; i++) {
+            Edges.due("read", Texts.read(x, full), 0);
+            Edges.due("read", Texts.read(x, i == 0 ? full : full + "@"), i == 0 ? 0 : 1);
+            Edges.due("read", Texts.read(x, small), 0);
+            Edges.dueSame("a small text behind a full one", x, fresh);
+            Edges.due("far", x.tells(0, 1, 2), 999);
+            Edges.due("DRAWS", x.tells(0, 0, 0), 1);
+            Edges.due("GIVES", x.tells(0, 0, 1), 1);
+            Edges.due("HEALS", x.heals(0, 0), 0);
+            Edges.due("LEAVE and CAUGHT", x.theft(0, 9), 9000);
+        }
+        SaintTheft y = new SaintTheft();
+        for (int i = 0; i < 5; i++) {
+            Edges.due("read", Texts.read(y, "church a 0;pilgrim p a 1 8;draws=1" + "+1".repeat(190) + ";"), 0);
+            Edges.due("the longest law, once more", y.tells(0, 0, 0), 191);
+            Edges.due("one that was not told", y.tells(0, 0, 1), 8);
+        }
+        SaintTheft z = new SaintTheft();
+        Texts.read(z, "seed 1; relic r a true;");
+        Texts.read(z, "church a 0; church b 0; relic r a true; caught = 69; leave = 0;");
+        Edges.due("seed 0 again: 68 is less than 69", z.steal(0, 1, 1), 2);
     }
 
     static void promise4InPlaceOfTheOneAhead() {

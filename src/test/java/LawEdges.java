@@ -107,6 +107,13 @@ final class LawEdges {
         SaintTheft y = Texts.of(six + "road e f 1; road d e 1; road c d 1; road b c 1; road a b 1; road a f 6; "
                 + "road a e 3; road b f 4;");
         Edges.due("five of 1 against one of 6, and 3 + 1", y.tells(0, 5, 2), 4);
+        // Each church in its turn is the only one by which the way goes.
+        for (char by = 'b'; by <= 'e'; by++) {
+            SaintTheft v = Texts.of(six + "road a " + by + " 7; road " + by + " f 8;");
+            Edges.due("by " + by, v.tells(0, 5, 2), 15);
+        }
+        SaintTheft u = Texts.of(TextEdges.many("church # 0; ", 6) + "pilgrim p b 0 0; road b a 1; road a f 1; road f c 1;");
+        Edges.due("by the first and the last one", u.tells(0, 2, 2), 3);
         SaintTheft z = Texts.of(six + "road a f 3; road a b 1; road b f 1;");
         Edges.due("two roads shorter than one", z.tells(0, 5, 2), 2);
         SaintTheft w = Texts.of(six + "road a f 2; road a b 1; road b f 1; road c d 1;");
@@ -186,6 +193,26 @@ final class LawEdges {
         dueValue("if 1 < 2 then 3 else if 1 / 0 < 1 then 4 else 5", 3);
         dueValue("if 2 < 1 then 1 / 0 else if 1 < 2 then 3 else 1 / 0", 3);
         dueValue("if 2 < 1 then 1/0 else if 2 < 1 then 1/0 else if 2 < 1 then 1/0 else if 2 < 1 then 1/0 else 3", 3);
+    }
+
+    static void promise9LongestLaw() {
+        Edges.edge(9, "2 ROOM: a 401st TOKEN");
+        // 400 TOKENS each.
+        SaintTheft x = Texts.of("church a 3;pilgrim p a 4 5;gives=2;draws=1" + "+1".repeat(191) + ";");
+        Edges.due("the longest law", x.tells(0, 0, 0), 192);
+        Edges.due("the one ahead of it", x.tells(0, 0, 1), 2);
+        SaintTheft y = Texts.of("draws=1" + "-1".repeat(193) + ";church a 3;pilgrim p a 4 5;");
+        Edges.due("the longest law", y.tells(0, 0, 0), -192);
+        Edges.due("one that was not told", y.tells(0, 0, 1), 5);
+    }
+
+    static void promise9DeepestLaw() {
+        Edges.edge(9, "a 7th ( within one another (at it)");
+        String deep = "1+2*(1+2*(1+2*(1+2*(1+2*(1+2*(1+2*3))))))";
+        dueValue(deep, 511);
+        dueValue("if " + deep + " < " + deep + "+1 then " + deep + " else 0", 511);
+        dueValue("if 1 < 0 then 1 else if 1 < 0 then 2 else if 1 < 0 then 3 else if " + deep + " < 512 then " + deep + " else 0", 511);
+        dueValue("1-(2-(3-(4-(5-(6-(7))))))", 4);
     }
 
     static void promise9VarsNotTold() {

@@ -144,7 +144,11 @@ final class QuestionEdges {
         Edges.due("the most nights", Texts.of(TWO + "leave = nights; caught = 0;").nights(0), 9);
         Edges.due("the fewest nights", Texts.of(TWO + "leave = 50 - nights; caught = 0;").nights(0), 1);
         Edges.due("alike from the fifth on", Texts.of(TWO + "leave = nights * 20; caught = 0;").nights(0), 5);
-        Edges.due("only the last one", Texts.of(TWO + "leave = nights / 9; caught = 0;").nights(0), 9);
+        for (int n = 1; n <= 9; n++) {
+            String law = "leave = if nights < " + n + " then 40 else if " + n + " < nights then 40 else 41; caught = 0;";
+            Edges.due("most by " + n, Texts.of(TWO + law).nights(0), n);
+        }
+        Edges.due("no nights at all don't count", Texts.of(TWO + "leave = if nights < 1 then 99 else nights; caught = 0;").nights(0), 9);
     }
 
     static void promise18NoSuchRelic() {

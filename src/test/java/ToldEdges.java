@@ -173,6 +173,18 @@ final class ToldEdges {
         Edges.due("by 21", y.ask(21), -1);
     }
 
+    static void promise38YearThatGoesByNext() {
+        Edges.edge(38, "that in the YEAR that goes by next a wonder is written");
+        // In year 0 only p has wonders at one of both, in year 1 only q, then none.
+        SaintTheft x = Texts.of("church a 0; relic r a true; relic s a copy; pilgrim p a 0 0; pilgrim q a 1 0; "
+                + "heals = if years < need then 0 else if need < years then 0 else truth * 100;");
+        Edges.due("in year 0", x.ask(0), 0);
+        x.years(1);
+        Edges.due("in year 1", x.ask(0), 1);
+        x.years(1);
+        Edges.due("in year 2: alike", x.ask(0), 0);
+    }
+
     static void promise38NoneAreLeft() {
         Edges.edge(38, "-2: no RELICS are left, no PILGRIMS");
         SaintTheft x = Texts.of(SIGNS);
