@@ -9,8 +9,7 @@ public final class EdgesTest {
     private static final Class<?>[] WHERE = {TextEdges.class, FaultEdges.class, LawEdges.class, DeedEdges.class,
         QuestionEdges.class, ForecastEdges.class, ToldEdges.class, FullEdges.class};
 
-    public static void main(String[] args)
-            throws IOException, IllegalAccessException, InvocationTargetException {
+    public static void main(String[] args) throws IOException, IllegalAccessException {
         Edges.openDocument();
         int many = 0;
         for (Class<?> where : WHERE) {
@@ -18,7 +17,7 @@ public final class EdgesTest {
             Arrays.sort(methods, Comparator.comparing(Method::getName));
             for (Method method : methods) {
                 if (method.getName().startsWith("promise")) {
-                    method.invoke(null);
+                    run(method);
                     many++;
                     String number = method.getName().replaceAll("^promise(\\d+).*", "$1");
                     Edges.due(method + " names its promise", Edges.promiseOfEdge(), Integer.parseInt(number));
@@ -30,6 +29,15 @@ public final class EdgesTest {
         System.out.println(wrong == 0 ? many + " edges hold" : wrong + " answers at edges are not as due");
         if (wrong != 0) {
             System.exit(1);
+        }
+    }
+
+    /** What a test throws is a failure of that test; the others still run. */
+    private static void run(Method method) throws IllegalAccessException {
+        try {
+            method.invoke(null);
+        } catch (InvocationTargetException e) {
+            Edges.fail(method.getName() + " was ended by " + e.getCause());
         }
     }
 }

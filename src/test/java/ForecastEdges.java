@@ -35,6 +35,22 @@ final class ForecastEdges {
         QuestionEdges.nothingHappens(24, x -> x.took(0, 60));
     }
 
+    /** Each church in turn has the relic and the pilgrim, and other watchers than the text told. */
+    static void promise24FromNowOn() {
+        Edges.edge(24, "What would be");
+        for (int church = 0; church < 6; church++) {
+            String name = "" + (char) ('a' + church);
+            SaintTheft x = Texts.of(TextEdges.many("church # 1; ", 6) + "relic r " + name + " true; pilgrim p " + name
+                    + " 1 1; heals = 100; gives = watch * 10 + wonders + years;");
+            x.watch(church, 4);
+            Edges.due("by its watchers", x.took(church, 1), 41);
+            x.years(1);
+            Edges.due("by its wonders and years", x.took(church, 2), 43 + 45);
+            x.undo();
+            Edges.due("as ahead of it", x.took(church, 1), 41);
+        }
+    }
+
     static void promise24Years() {
         dueInYears(24, 7, (x, n) -> x.took(0, n));
     }

@@ -152,6 +152,8 @@ final class FullEdges {
         Edges.edge(21, CHURCHES);
         Edges.due("of a and f", Texts.of(FULL).guards(19, 1), 7 + 9);
         Edges.due("not of f", Texts.of(FULL).guards(20, 1), -2);
+        Edges.due("of f alone", Texts.of(TextEdges.many("church # 1; ", 6) + "relic r f true;").guards(70, 1), 7);
+        Edges.due("of b alone", Texts.of(TextEdges.many("church # 1; ", 6) + "relic r b true;").guards(70, 1), 7);
     }
 
     static void promise22TheLastRelic() {

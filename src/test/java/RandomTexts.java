@@ -47,12 +47,14 @@ final class RandomTexts {
             addRoads(tells, names, churches);
             int next = churches;
             for (int relics = upTo(6); relics > 0; relics--) {
-                tells.add("relic " + names.get(next++) + " " + names.get(random.nextInt(churches)) + " "
+                int church = random.nextInt(churches);
+                addBehind(tells, names.get(church), "relic " + names.get(next++) + " " + names.get(church) + " "
                         + pick("true", "copy") + ";");
             }
             for (int pilgrims = upTo(5); pilgrims > 0; pilgrims--) {
-                tells.add("pilgrim " + names.get(next++) + " " + names.get(random.nextInt(churches)) + " " + upTo(9)
-                        + " " + upTo(9) + ";");
+                int church = random.nextInt(churches);
+                addBehind(tells, names.get(church), "pilgrim " + names.get(next++) + " " + names.get(church) + " "
+                        + upTo(9) + " " + upTo(9) + ";");
             }
         }
         for (int laws = upTo(6); laws > 0; laws--) {
@@ -74,9 +76,19 @@ final class RandomTexts {
             if (a != b && !there.contains(pair)) {
                 there.add(pair);
                 int length = random.nextBoolean() ? 1 + upTo(98) : 1 + upTo(5);
-                tells.add("road " + names.get(a) + " " + names.get(b) + " " + length + ";");
+                addBehind(tells, names.get(Math.max(a, b)), "road " + names.get(a) + " " + names.get(b) + " " + length
+                        + ";");
             }
         }
+    }
+
+    /** Anywhere behind the church that it names, so that sorts stand among one another. */
+    private void addBehind(List<String> tells, String church, String tell) {
+        int from = 0;
+        while (!tells.get(from).startsWith("church " + church + " ")) {
+            from++;
+        }
+        tells.add(from + 1 + upTo(tells.size() - from - 1), tell);
     }
 
     private String law(String name) {

@@ -170,6 +170,26 @@ final class TextEdges {
         Edges.dueFault("church zzzzzzzz 1; church zzzzzzzz 1;", 3, 26);
     }
 
+    static void promise4NamesOfOtherLengths() {
+        Edges.edge(4, "NAMES (letters a .. z, 8 at most");
+        for (char sign = 'a'; sign <= 'z'; sign++) {
+            String one = "" + sign;
+            StringBuilder text = new StringBuilder();
+            for (int length = 1; length <= 6; length++) {
+                text.append("church ").append(one.repeat(length)).append(" 1; ");
+            }
+            for (int length = 1; length <= 6; length++) {
+                text.append("relic ").append(one).append(sign == 'x' ? 'y' : 'x').append(one.repeat(length)).append(' ')
+                        .append(one.repeat(length)).append(" copy; ");
+            }
+            SaintTheft x = Texts.of(text.toString());
+            for (int relic = 0; relic < 6; relic++) {
+                Edges.due("where it is in \"" + text + "\"", x.relic(relic, 0), relic);
+            }
+        }
+        Edges.dueRight("church ab 1; church ba 1; church a 1; church b 1; church aab 1; church baa 1;");
+    }
+
     static void promise4NoWords() {
         Edges.edge(4, "none of the words in quotes");
         List<String> words = Model.WORDS;
